@@ -371,7 +371,7 @@ public final class WordForge {
 
         /** Both or none, so that an error leaves the memory as it was. */
         int appendBoth(int first, int second) {
-            if (!hasRoom(2)) {
+            if (here + 2 > MOST) {
                 return NO_ROOM;
             }
             cells[here] = first;
@@ -711,7 +711,7 @@ public final class WordForge {
         }
 
         void add(int sort, int place) {
-            if (!isFull()) {
+            if (size < MOST) {
                 sorts[size] = sort;
                 places[size] = place;
                 size++;
@@ -1214,7 +1214,7 @@ public final class WordForge {
         private boolean loopEnds(int step) {
             int before = store.fromTop(0) - store.fromTop(1);
             int after = before + step;
-            if (before < 0 != after < 0) {
+            if ((before < 0) != (after < 0)) {
                 store.drop(2);
                 return true;
             }

@@ -30,6 +30,8 @@ public final class CatchTest {
         Desk.after("99 ' catch catch").stack(99, -9);
         Desk.after("' variable catch v 3 v !").stack(0).cells(0, 3);
         Desk.after("' exit catch").stack(-14);
+        // the call stands where a CATCH stood before
+        Desk.after("' cr catch : a 5 6 ; a").stack(0, 5, 6);
         Desk.after(": a exit 5 ; ' a catch").stack(0);
         Desk.after(": a ['] / catch 9 ; 1 0 a 8").stack(1, 0, -10, 9, 8);
         // compiling and the word that is being made are left alone
@@ -82,6 +84,8 @@ public final class CatchTest {
         desk.answers("a", -13).answers(": b 5 ; b", 0).stack(5).word(0, 0, 0);
         desk = new Desk().answers("1 . 0 0 / 2 .", -10).wrote("1 ").answers("", 0);
         desk.stack().wrote("");
+        new Desk().answers(": a 5 throw 8 ; a", 5).answers("7", 0).stack(7).count(6, 0);
+        new Desk().answers("cr", 0, -28).answers("7", 0).stack(7).count(6, 0).wrote("");
         new Desk().answers(": a 1 >r 5 throw ; a", 5).count(2, 0).answers("r>", -6);
     }
 }

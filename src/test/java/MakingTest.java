@@ -69,12 +69,16 @@ public final class MakingTest {
         desk.answers("7 ' constant catch x 5", 0).stack(7, -8, 5);
         new Desk().answers("400 allot create x x", 0).stack(400).word(0, 0, 400);
         new Desk().answers("400 allot 1 constant x", -8).count(4, 0);
+        new Desk().answers("399 allot 1 constant x x", 0).stack(1).count(3, 400);
+        new Desk().answers("399 allot variable x x", 0).stack(399).count(3, 400);
         new Desk().answers("400 allot variable x", -8).count(4, 0);
         new Desk().answers("400 allot : x", 0).answers(";", -8).count(4, 0).count(3, 400);
         new Desk().answers("399 allot : x ; x", 0).count(3, 400);
         new Desk().answers("400 allot immediate", -32);
         new Desk().answers("immediate", -32);
         Desk.after(": a [ immediate ] 3 ; : b a").stack(3);
+        // a word that went leaves nothing to the next one
+        new Desk().answers(": a [ immediate oops", -13).answers(": a ;", 0).word(0, 2, 0);
     }
 
     private static void ticks() {
@@ -135,6 +139,8 @@ public final class MakingTest {
         Desk.after(": a 1+ dup 29 < if recurse then ; 0 a").stack(29);
         Desk.after(": a 1+ dup 30 < if recurse then ; 0 a").stack(30);
         new Desk().answers(": a 1+ dup 31 < if recurse then ; 0 a", -5);
+        // a place word without a behaviour needs no call
+        Desk.after("variable v : a 1+ dup 30 < if recurse else v then ; 0 a").stack(30, 0);
         // the call leaves the cells
         new Desk().answers("398 allot : a 8 [ -2 allot ] ; 8 398 ! 8 399 ! 1 a", -9).stack();
         new Desk().answers(": a [ 2 , 777 , ] ; a", -9);
@@ -163,6 +169,8 @@ public final class MakingTest {
         Desk.after(last + "6 399 ! ' a catch").stack(-4);
         Desk.after(last + "6 399 ! 1 ' a catch").stack(1, -6);
         Desk.after(last + "6 399 ! 1 >r 1 >r 1 ' a catch").stack(1, -9).count(2, 2);
+        Desk.after(": a [ 5 , 0 , ] ; 1 >r ' a catch").stack(-6).count(2, 1);
+        Desk.after(": a [ 6 , 0 , ] ; 1 >r 1 ' a catch").stack(1, -6).count(2, 1);
         Desk.after(last + "7 399 ! ' a catch").stack(-32);
         Desk.after(last + "7 399 ! create b a").word(1, 3, 400).answers("b", -9);
         Desk.after(last + "0 399 ! a").stack();

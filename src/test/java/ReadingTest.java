@@ -59,6 +59,8 @@ public final class ReadingTest {
         Desk.after("1 ( ( ) 2").stack(1, 2);
         Desk.after("1 ( 2 3").stack(1).answers("4", 0).stack(1, 4);
         Desk.after(": a ( 1 ) 2 ; a").stack(2);
+        Desk.after("1 ( " + Desk.times(196, "x")).stack(1);
+        Desk.after("1 ( 2 ) 3").answers("4 ( 5", 0).stack(1, 3, 4);
         new Desk().answers("(1) 2", -13);
         Desk.after("' ( execute 1 2 ) 3").stack(3);
     }

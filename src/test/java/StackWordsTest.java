@@ -16,6 +16,9 @@ public final class StackWordsTest {
     private static void moves() {
         Desk.after("1 2 dup").stack(1, 2, 2);
         Desk.after("1 2 drop").stack(1);
+        Desk.after("1 2 swap").stack(2, 1);
+        Desk.after("1 2 3 rot").stack(2, 3, 1);
+        Desk.after("1 2 nip").stack(2);
         Desk.after("1 2 3 swap").stack(1, 3, 2);
         Desk.after("1 2 over").stack(1, 2, 1);
         Desk.after("9 1 2 3 rot").stack(9, 2, 3, 1);
@@ -34,6 +37,8 @@ public final class StackWordsTest {
     private static void store() {
         Desk.after("1 2 >r").stack(1).count(2, 1).answers("r@ r@ r>", 0).stack(1, 2, 2, 2)
                 .count(2, 0);
+        Desk.after("1 >r i r@ r>").stack(1, 1, 1);
+        Desk.after("1 >r 2 >r unloop").count(2, 0);
         Desk.after("1 2 3 >r >r >r i j").stack(1, 3).count(2, 3).answers("unloop", 0)
                 .count(2, 1).answers("r>", 0).stack(1, 3, 3);
     }
@@ -99,6 +104,7 @@ public final class StackWordsTest {
 
     private static void gives(String text, int want) {
         Desk.after("99 " + text).stack(99, want);
+        Desk.after(text).stack(want);
     }
 
     private static void tooFew() {
@@ -134,7 +140,14 @@ public final class StackWordsTest {
         new Desk().answers(Desk.times(29, "1 ") + "0 ?dup", 0).count(1, 30);
         String six = Desk.times(6, "1 >r ");
         Desk desk = Desk.after(six + six + six + six + six).count(2, 30);
+        desk.answers("7 ' >r catch", 0).stack(7, -5).count(2, 30);
         desk.answers("1 >r", -5).count(2, 0);
+        // nothing has been changed where an error was met
+        desk = Desk.after(": a 1 1 r> ; 8 >r " + Desk.times(28, "1 ") + "' a catch");
+        desk.count(1, 29).count(2, 1).count(7, 1);
+        Desk.due("the error of r>", desk.forge.stack(28), -3);
+        desk.answers("drop r>", 0);
+        Desk.due("the number in the store", desk.forge.stack(28), 8);
         desk = Desk.after(six + six + six + six + six);
         desk.answers(full + "r>", -3);
         desk = Desk.after(six + six + six + six + six);

@@ -33,6 +33,7 @@ public final class StructureTest {
         Desk.after(": a 3 0 do i loop ; a").stack(0, 1, 2).count(2, 0)
                 .cells(0, 1, 3, 1, 0, 4, 20, 5, 5, 0);
         Desk.after(": a 10 0 do i 4 +loop ; a").stack(0, 4, 8).cells(6, 1, 4, 6, 5, 0);
+        Desk.after(": a 10 0 do 4 +loop 7 ; a").stack(7);
         Desk.after(": a 0 3 do i -1 +loop ; a").stack(3, 2, 1, 0);
         Desk.after(": a -1 0 do i -1 +loop ; a").stack(0, -1).count(2, 0);
         Desk.after(": a 2 0 do 2 0 do j i loop loop ; a").stack(0, 0, 0, 1, 1, 0, 1, 1);
@@ -93,6 +94,7 @@ public final class StructureTest {
             desk.cells(399, 0).answers("[ drop -1 allot ] t", 0).stack(0).count(3, 400);
         }
         new Desk().answers("400 allot : a do", -8);
+        Desk.after("399 allot : a do").cells(399, 4).count(8, 1);
         Desk.after("400 allot : a begin").count(8, 1);
         Desk.after("398 allot : a if then").cells(398, 3, 400);
         // -22 is asked before -8
