@@ -3,11 +3,13 @@ import java.util.Arrays;
 /** A WordForge with short ways to type, run and look, and a tally of the checks that went wrong. */
 final class Desk {
     static final int FULL = 3000;
+    private static final int MOST_CALLS = 512;
 
     private static int checks = 0;
     private static int wrong = 0;
 
     final WordForge forge = new WordForge();
+    private int calls = 0;
 
     /** What a call throws, or null; the call itself stands in the test. */
     interface Call {
@@ -45,7 +47,16 @@ final class Desk {
         return new Desk().answers(text, 0);
     }
 
+    /** What an object answers behind its 512th call is free, so no test may ask it then. */
+    private void use(int more) {
+        calls += more;
+        if (calls > MOST_CALLS) {
+            due("the calls of one object", calls, "at most " + MOST_CALLS);
+        }
+    }
+
     Desk type(String text) {
+        use(text.length());
         for (int k = 0; k < text.length(); k++) {
             due("type of character " + k + " of <" + text + ">", forge.type(text.charAt(k)), true);
         }
@@ -58,20 +69,18 @@ final class Desk {
 
     Desk answers(String text, int fuel, int want) {
         type(text);
+        use(1);
         due("run(" + fuel + ") of <" + text + ">", forge.run(fuel), want);
         return this;
     }
 
     Desk stack(int... want) {
-        int[] got = new int[forge.count(1)];
-        for (int k = 0; k < got.length; k++) {
-            got[k] = forge.stack(k);
-        }
-        due("the stack", Arrays.toString(got), Arrays.toString(want));
+        due("the stack", Arrays.toString(numbers()), Arrays.toString(want));
         return this;
     }
 
     Desk cells(int from, int... want) {
+        use(want.length);
         int[] got = new int[want.length];
         for (int k = 0; k < got.length; k++) {
             got[k] = forge.cell(from + k);
@@ -81,20 +90,18 @@ final class Desk {
     }
 
     Desk wrote(String want) {
-        StringBuilder got = new StringBuilder();
-        for (int k = 0; k < forge.count(0); k++) {
-            got.append(forge.output(k));
-        }
-        due("the output", got.toString(), want);
+        due("the output", output(), want);
         return this;
     }
 
     Desk count(int what, int want) {
+        use(1);
         due("count(" + what + ")", forge.count(what), want);
         return this;
     }
 
     Desk word(int k, int what, int want) {
+        use(1);
         due("word(" + k + ", " + what + ")", forge.word(k, what), want);
         return this;
     }
@@ -106,7 +113,89 @@ final class Desk {
         due("the error of " + name + " after <" + before + ">", top, want);
     }
 
+    /**
+     * Behind the setup a CATCH carries the word out: it meets the error and has changed nothing. What
+     * stands behind it in the text is only the name that it parses, if it comes to that.
+     */
+    static void meets(String setup, String name, String behind, int error) {
+        changesNothing(setup, "' " + name + " catch " + behind, error);
+    }
+
+    /** The same with a word that is carried out while the word a is compiled. */
+    static void meetsCompiling(String setup, String inside, String name, String behind, int error) {
+        String catcher = ": t ['] " + name + " catch ; immediate ";
+        changesNothing(catcher + setup + " : a " + inside + " ", "t " + behind, error);
+    }
+
+    private static void changesNothing(String setup, String text, int error) {
+        Desk untouched = after(setup);
+        Desk touched = after(setup).answers(text, 0);
+        int[] numbers = touched.numbers();
+        boolean one = numbers.length > 0;
+        String what = "<" + text + "> after <" + setup + ">";
+        due("the error of " + what, one ? numbers[numbers.length - 1] : "none", error);
+        int[] below = Arrays.copyOf(numbers, one ? numbers.length - 1 : 0);
+        due("the stack below it, of " + what, Arrays.toString(below),
+                Arrays.toString(untouched.numbers()));
+        due("the state after " + what, touched.state(), untouched.state());
+        due("the store after " + what, touched.emptyStore(), untouched.emptyStore());
+    }
+
+    int[] numbers() {
+        int[] numbers = new int[forge.count(1)];
+        use(1 + numbers.length);
+        for (int k = 0; k < numbers.length; k++) {
+            numbers[k] = forge.stack(k);
+        }
+        return numbers;
+    }
+
+    /** What can be seen besides the stack, the output, and what is counted anew with each run. */
+    private String state() {
+        StringBuilder state = new StringBuilder();
+        for (int what : new int[] {2, 3, 4, 5, 8}) {
+            state.append(forge.count(what)).append(' ');
+        }
+        int made = forge.count(4);
+        for (int k = made < 3 ? 0 : made - 3; k < made; k++) {
+            for (int what = 0; what <= 4; what++) {
+                state.append(forge.word(k, what)).append(what == 4 ? ';' : ',');
+            }
+        }
+        // all 400 would be more calls than an object has
+        for (int a = 0; a < 20; a++) {
+            state.append(' ').append(forge.cell(a)).append(' ').append(forge.cell(399 - a));
+        }
+        use(61);
+        return state.toString();
+    }
+
+    /** The numbers of the store from its top, which can be seen only as they are taken from it. */
+    String emptyStore() {
+        use(2);
+        answers("[ " + times(forge.count(1), "drop "), 0);
+        answers(times(forge.count(2), "r> . "), 0);
+        return output();
+    }
+
+    String output() {
+        char[] got = new char[forge.count(0)];
+        use(1 + got.length);
+        for (int k = 0; k < got.length; k++) {
+            got[k] = forge.output(k);
+        }
+        return new String(got);
+    }
+
     static String times(int many, String text) {
         return text.repeat(many);
+    }
+
+    static int checks() {
+        return checks;
+    }
+
+    static int wrong() {
+        return wrong;
     }
 }
