@@ -3,6 +3,24 @@ import java.util.Arrays;
 /** A WordForge with short ways to type, run and look, and a tally of the checks that went wrong. */
 final class Desk {
     static final int FULL = 3000;
+    static final int LEAST = Integer.MIN_VALUE;
+    static final int MOST = Integer.MAX_VALUE;
+    static final String FULL_STACK = times(30, "1 ");
+    static final String ALMOST_FULL_STACK = times(29, "1 ");
+    static final String FULL_STORE = times(30, "1 >r ");
+    static final String ALMOST_FULL_STORE = times(29, "1 >r ");
+    /** Makes the word a of the last cell alone: behind it, the place of its call is no cell. */
+    static final String LAST_CELL = "399 allot : a [ -399 allot ] ; ";
+    /** The words by their numbers; those without a name are empty. */
+    static final String[] NAMES = {"exit", "", "", "", "", "", "", "", "dup", "drop", "swap",
+        "over", "rot", "nip", "?dup", "depth", "pick", ">r", "r>", "r@", "i", "j", "unloop", "+", "-", "*",
+        "/", "mod", "negate", "abs", "min", "max", "and", "or", "xor", "invert", "=", "<", "u<",
+        "0=", "0<", "1+", "1-", "2*", "@", "!", "+!", ",", "here", "allot", ".", "emit", "cr", ":", ";",
+        "constant", "variable", "create", "does>", "immediate", "'", "[']", "execute", "compile,",
+        "literal", "postpone", "[", "]", "recurse", "if", "else", "then", "begin", "until", "while",
+        "repeat", "do", "loop", "+loop", "throw", "catch", "("};
+    private static final String IMMEDIATE = " ; does> ['] literal postpone [ recurse if else then"
+            + " begin until while repeat do loop +loop ( ";
     private static final int MOST_CALLS = 512;
 
     private static int checks = 0;
@@ -106,7 +124,17 @@ final class Desk {
         return this;
     }
 
-    /** The error that a CATCH gets when it carries out the word of this name, above these numbers. */
+    /** The text leaves this number, on an empty stack as well as above another one. */
+    static void gives(String text, int want) {
+        after(text).stack(want);
+        after("99 " + text).stack(99, want);
+    }
+
+    static boolean isImmediate(String name) {
+        return IMMEDIATE.contains(" " + name + " ");
+    }
+
+    /** Above these numbers a CATCH carries out the word of this name, and gets this error. */
     static void caught(String before, String name, String behind, int want) {
         Desk desk = after(before + " ' " + name + " catch " + behind);
         int top = desk.forge.stack(desk.forge.count(1) - 1);
@@ -114,8 +142,8 @@ final class Desk {
     }
 
     /**
-     * Behind the setup a CATCH carries the word out: it meets the error and has changed nothing. What
-     * stands behind it in the text is only the name that it parses, if it comes to that.
+     * Behind the setup a CATCH carries the word out: it meets the error and has changed nothing.
+     * What stands behind it in the text is only the name that it parses, if it comes to that.
      */
     static void meets(String setup, String name, String behind, int error) {
         changesNothing(setup, "' " + name + " catch " + behind, error);

@@ -1,6 +1,5 @@
 /** The boundary cases of errors, CATCH and the ends of runs, sentence by sentence. */
 public final class ErrorSentencesTest {
-    private static final int LEAST = Integer.MIN_VALUE;
     private static final String[] FAR = {"-1", "400", "-2147483648", "2147483647"};
     private static final String[] NO_WORD = {"-1", "82", "-2147483648", "2147483647"};
     private static final String[] OF_ONE = {"dup", "drop", "?dup", "pick", ">r", "negate", "abs",
@@ -8,10 +7,6 @@ public final class ErrorSentencesTest {
         "compile,", "throw", "catch"};
     private static final String[] OF_TWO = {"swap", "over", "nip", "+", "-", "*", "/", "mod", "min",
         "max", "and", "or", "xor", "=", "<", "u<", "!", "+!"};
-    private static final String FULL_STORE = Desk.times(30, "1 >r ");
-    private static final String FULL_STACK = Desk.times(30, "1 ");
-    /** Makes the word a, at cell 399, its only one, so that its call's place is no cell behind it. */
-    private static final String LAST = "399 allot : a [ -399 allot ] ; ";
 
     public static void main(String[] args) {
         stackErrors();
@@ -29,18 +24,20 @@ public final class ErrorSentencesTest {
 
     private static void stackErrors() {
         Sentence.holds("-3 a 31st number on the stack", () -> {
-            for (String name : new String[] {"dup", "over", "?dup", "depth", "here", "' dup", "7"}) {
-                new Desk().answers(FULL_STACK + name, -3).stack();
-                Desk.after(Desk.times(29, "1 ") + name).count(1, 30);
+            String[] texts = {"dup", "over", "?dup", "depth", "here", "' dup", "7"};
+            for (String name : texts) {
+                new Desk().answers(Desk.FULL_STACK + name, -3).stack();
+                Desk.after(Desk.ALMOST_FULL_STACK + name).count(1, 30);
             }
             for (String name : new String[] {"r>", "r@", "i", "j"}) {
                 String three = "1 >r 2 >r 3 >r ";
-                new Desk().answers(three + FULL_STACK + name, -3).stack().count(2, 0);
-                Desk.after(three + Desk.times(29, "1 ") + name).count(1, 30);
+                new Desk().answers(three + Desk.FULL_STACK + name, -3).stack().count(2, 0);
+                Desk.after(three + Desk.ALMOST_FULL_STACK + name).count(1, 30);
             }
-            for (String made : new String[] {"create x ", "variable x ", "5 constant x ", ": x 5 ; "}) {
-                new Desk().answers(made + FULL_STACK + "x", -3).stack();
-                Desk.after(made + Desk.times(29, "1 ") + "x").count(1, 30);
+            String[] words = {"create x ", "variable x ", "5 constant x ", ": x 5 ; "};
+            for (String made : words) {
+                new Desk().answers(made + Desk.FULL_STACK + "x", -3).stack();
+                Desk.after(made + Desk.ALMOST_FULL_STACK + "x").count(1, 30);
             }
         });
         Sentence.holds("-4 too few on it", () -> {
@@ -53,6 +50,13 @@ public final class ErrorSentencesTest {
                 new Desk().answers("0 " + name, -4).stack();
                 Desk.meets("5", name, "", -4);
             }
+            // with as many as they take, they ask for something else, or for nothing
+            for (String name : OF_ONE) {
+                Desk.due("-4 of 0 " + name, answer("0 " + name) == -4, name.equals("pick"));
+            }
+            for (String name : OF_TWO) {
+                Desk.due("-4 of 0 0 " + name, answer("0 0 " + name) == -4, false);
+            }
             Desk.meets("", "rot", "", -4);
             Desk.meets("5 6", "rot", "", -4);
             Desk.after("5 6 7 rot").stack(6, 7, 5);
@@ -64,14 +68,18 @@ public final class ErrorSentencesTest {
         });
     }
 
+    private static int answer(String text) {
+        return new Desk().type(text).forge.run(Desk.FULL);
+    }
+
     private static void storeErrors() {
         Sentence.holds("-5 a 31st in the store or a 31st call", () -> {
-            new Desk().answers(FULL_STORE + "7 >r", -5).count(2, 0);
-            Desk.meets(FULL_STORE + "7", ">r", "", -5);
-            Desk.after(Desk.times(29, "1 >r ") + "7 >r").count(2, 30);
+            new Desk().answers(Desk.FULL_STORE + "7 >r", -5).count(2, 0);
+            Desk.meets(Desk.FULL_STORE + "7", ">r", "", -5);
+            Desk.after(Desk.ALMOST_FULL_STORE + "7 >r").count(2, 30);
             // 4 puts two there at once
             String loop = ": a [ 4 , ] ; ";
-            Desk.meets(loop + Desk.times(29, "1 >r ") + "7 8", "a", "", -5);
+            Desk.meets(loop + Desk.ALMOST_FULL_STORE + "7 8", "a", "", -5);
             Desk.after(loop + Desk.times(28, "1 >r ") + "7 8 a").count(2, 30);
             // calls, and a CATCH is one in their row
             new Desk().answers(": a recurse ; a", -5).count(6, 34);
@@ -158,9 +166,9 @@ public final class ErrorSentencesTest {
             Desk.meets(": a [", "constant", "", -4);
             Desk.after("' constant catch dup").stack(-4, -4);
             // -6 first
-            Desk.meets(LAST + "5 399 !", "a", "", -6);
-            Desk.meets(LAST + "6 399 ! 1", "a", "", -6);
-            Desk.meets(LAST + "3 399 !", "a", "", -4);
+            Desk.meets(Desk.LAST_CELL + "5 399 !", "a", "", -6);
+            Desk.meets(Desk.LAST_CELL + "6 399 ! 1", "a", "", -6);
+            Desk.meets(Desk.LAST_CELL + "3 399 !", "a", "", -4);
         });
         Sentence.holds("then for what is said of it, in its order", () -> {
             // -29, and only then the name
@@ -177,9 +185,9 @@ public final class ErrorSentencesTest {
     private static void orderOfTheLast() {
         Sentence.holds("in its order, then -9, -10, -3, -5, -8", () -> {
             // what is said comes before -3 and -8
-            new Desk().answers(FULL_STACK + "' oops", -13);
-            new Desk().answers(FULL_STACK + "'", -16);
-            new Desk().answers(FULL_STACK + "' abcdefghij", -19);
+            new Desk().answers(Desk.FULL_STACK + "' oops", -13);
+            new Desk().answers(Desk.FULL_STACK + "'", -16);
+            new Desk().answers(Desk.FULL_STACK + "' abcdefghij", -19);
             new Desk().answers("400 allot : a ['] oops", -13);
             new Desk().answers("400 allot : a postpone oops", -13);
             new Desk().answers("400 allot : a postpone", -16);
@@ -191,7 +199,7 @@ public final class ErrorSentencesTest {
             new Desk().answers("400 allot : a " + Desk.times(12, "begin ") + "if", -22);
             new Desk().answers("398 allot : a if until", -22);
             // -9 before -3, -5 and -8
-            new Desk().answers(LAST + "1 399 ! " + FULL_STACK + "a", -9);
+            new Desk().answers(Desk.LAST_CELL + "1 399 ! " + Desk.FULL_STACK + "a", -9);
             new Desk().answers(": a 1+ dup 30 < if recurse else 999 catch then ; 0 a", -9);
             new Desk().answers("400 allot 99 compile,", -9);
             // -3 before -5
@@ -223,9 +231,12 @@ public final class ErrorSentencesTest {
             Desk.meetsCompiling("", "begin", "then", "", -22);
             Desk.meetsCompiling("", Desk.times(12, "begin "), "while", "", -22);
             // inside of a call
-            Desk.after(": t 7 r> ; 8 >r " + Desk.times(29, "1 ") + "' t catch").count(2, 1);
+            Desk.after(": t 7 r> ; 8 >r " + Desk.ALMOST_FULL_STACK + "' t catch").count(2, 1);
             Desk.meets(": k [ 7 , ] ; create x 1 constant c", "k", "", -32);
-            Desk.meets(": k create does> ; k x : a 7 x ; " + Desk.times(29, "1 "), "a", "", -3);
+            Desk.meets(": k create does> ; k x : a 7 x ; " + Desk.ALMOST_FULL_STACK, "a", "", -3);
+            // x is the call that finds no place; its own place is not put on the stack either
+            Desk.after(": k create does> ; k x : r 1+ dup 29 = if drop x then recurse ; "
+                    + "5 0 ' r catch").stack(5, 0, -5);
         });
         Sentence.holds("(but a name that it parsed is gone from the text).", () -> {
             Desk.meets("5", "'", "oops", -13);
@@ -242,32 +253,32 @@ public final class ErrorSentencesTest {
             Desk.meetsCompiling("5", "[ 398 here - allot ]", "postpone", "dup", -8);
             Desk.meetsCompiling("5", "[ 400 here - allot ]", "postpone", "if", -8);
             // with the stack full the name of ' goes, too
-            Desk.after(": t 7 ' ; " + Desk.times(29, "1 ") + "' t catch oops drop").count(1, 29);
+            Desk.after(": t 7 ' ; " + Desk.ALMOST_FULL_STACK + "' t catch oops drop").count(1, 29);
         });
     }
 
     private static void caught() {
-        Sentence.holds("When an error is met, with a CATCH in the row of calls: all behind the latest"
-                + " CATCH ends, and it, too", () -> {
-                    Desk.after(": t 7 throw 8 ; : u t 9 ; 1 ' u catch 2").stack(1, 7, 2).count(7, 1);
-                    // the latest of two gets it, and not the next one
-                    String two = ": t 7 throw ; : u ['] t catch ";
-                    Desk.after(two + "; ' u catch").stack(7, 0).count(7, 1);
-                    Desk.after(two + "drop 8 throw ; ' u catch").stack(8).count(7, 2);
-                    new Desk().answers(two + "throw ; u", 7).count(7, 1);
-                    // a CATCH that is done gets nothing any more
-                    new Desk().answers("' cr catch 7 throw", 7).count(7, 0).stack();
-                    // thirty calls that have ended make room for thirty others
-                    Desk.after(": a recurse ; ' a catch ' a catch").stack(-5, -5).count(7, 2);
-                    // what is being made stays, with its open things, and so does the text
-                    Desk.after(": t 7 throw ; immediate : m ['] t catch ; immediate : a if m then")
-                            .stack(7).count(5, 1).count(8, 0).count(4, 3);
-                });
+        Sentence.holds("When an error is met, with a CATCH in the row of calls: all behind the"
+                + " latest CATCH ends, and it, too", () -> {
+            Desk.after(": t 7 throw 8 ; : u t 9 ; 1 ' u catch 2").stack(1, 7, 2).count(7, 1);
+            // the latest of two gets it, and not the next one
+            String two = ": t 7 throw ; : u ['] t catch ";
+            Desk.after(two + "; ' u catch").stack(7, 0).count(7, 1);
+            Desk.after(two + "drop 8 throw ; ' u catch").stack(8).count(7, 2);
+            new Desk().answers(two + "throw ; u", 7).count(7, 1);
+            // a CATCH that is done gets nothing any more
+            new Desk().answers("' cr catch 7 throw", 7).count(7, 0).stack();
+            // thirty calls that have ended make room for thirty others
+            Desk.after(": a recurse ; ' a catch ' a catch").stack(-5, -5).count(7, 2);
+            // what is being made stays, with its open things, and so does the text
+            Desk.after(": t 7 throw ; immediate : m ['] t catch ; immediate : a if m then")
+                    .stack(7).count(5, 1).count(8, 0).count(4, 3);
+        });
         Sentence.holds("and the error is put on the stack.", () -> {
             // there is always room for it, as CATCH took its word's number
-            Desk.after(": t " + Desk.times(2, "1 ") + "; " + Desk.times(29, "1 ") + "' t catch")
+            Desk.after(": t " + Desk.times(2, "1 ") + "; " + Desk.ALMOST_FULL_STACK + "' t catch")
                     .count(1, 30).count(7, 1);
-            Desk.after("-2147483648 ' throw catch").stack(0, LEAST);
+            Desk.after("-2147483648 ' throw catch").stack(0, Desk.LEAST);
         });
     }
 
@@ -294,47 +305,47 @@ public final class ErrorSentencesTest {
     }
 
     private static void endOfRun() {
-        Sentence.holds("Otherwise the run ends with it: stack, store, calls and open things are empty",
-                () -> {
-                    Desk desk = new Desk().answers("1 2 >r : a begin if oops", -13).stack();
-                    desk.count(1, 0).count(2, 0).count(8, 0);
-                    desk.answers("r>", -6).answers("drop", -4);
-                    // nothing of the calls goes on in the next run
-                    desk = new Desk().answers(": a 5 throw 8 . ; : b a 9 . ; b", 5);
-                    desk.answers("", 0).stack().wrote("").answers("7", 0).stack(7).wrote("");
-                    desk = new Desk().answers(": a recurse ; a", -5);
-                    desk.answers(": b 1+ dup 30 < if recurse then ; 0 b", 0).stack(30);
-                    desk = new Desk().answers(": a begin 0 until ; ' a catch", 20, -28);
-                    desk.answers("exit", -14).answers("5 throw", 5).count(7, 0);
-                });
+        Sentence.holds("Otherwise the run ends with it: stack, store, calls and open things are"
+                + " empty", () -> {
+            Desk desk = new Desk().answers("1 2 >r : a begin if oops", -13).stack();
+            desk.count(1, 0).count(2, 0).count(8, 0);
+            desk.answers("r>", -6).answers("drop", -4);
+            // nothing of the calls goes on in the next run
+            desk = new Desk().answers(": a 5 throw 8 . ; : b a 9 . ; b", 5);
+            desk.answers("", 0).stack().wrote("").answers("7", 0).stack(7).wrote("");
+            desk = new Desk().answers(": a recurse ; a", -5);
+            desk.answers(": b 1+ dup 30 < if recurse then ; 0 b", 0).stack(30);
+            desk = new Desk().answers(": a begin 0 until ; ' a catch", 20, -28);
+            desk.answers("exit", -14).answers("5 throw", 5).count(7, 0);
+        });
         Sentence.holds("one is not compiling any more, the rest of the text goes", () -> {
             Desk desk = new Desk().answers(": a oops 5 6", -13).count(5, 0).answers("", 0).stack();
             desk.answers("7", 0).stack(7).count(3, 0);
             new Desk().answers("oops 1 2 3", -13).answers("4", 0).stack(4);
             new Desk().answers("cr 1 2 3", 0, -28).answers("4", 0).stack(4);
             // there is room for 200 characters again
-            new Desk().answers("x" + Desk.times(199, " "), -13).answers(Desk.times(199, " ") + "5", 0)
-                    .stack(5);
+            new Desk().answers("x" + Desk.times(199, " "), -13)
+                    .answers(Desk.times(199, " ") + "5", 0).stack(5);
         });
     }
 
     private static void endOfWord() {
         Sentence.holds("and a word that is being made goes, too (HERE is where it was when this was"
                 + " begun).", () -> {
-                    Desk desk = new Desk().answers("3 allot : a 1 2 oops", -13).count(3, 3);
-                    desk.count(4, 0).cells(3, 1, 1, 1, 2).answers("a", -13).answers("]", -14);
-                    new Desk().answers("3 allot : a [ 50 allot oops", -13).count(3, 3).count(4, 0);
-                    new Desk().answers("3 allot : a [ -2 allot oops", -13).count(3, 3).count(4, 0);
-                    new Desk().answers("3 allot : a", 0).answers("5", 0).answers("oops", -13)
-                            .count(3, 3).count(4, 0);
-                    new Desk().answers("3 allot : a 5 [ cr", 3, -28).count(3, 3).count(4, 0);
-                    // a finished one stays, and HERE with it
-                    new Desk().answers(": a 5 ; 3 allot oops", -13).count(3, 6).count(4, 1);
-                    new Desk().answers("variable v 3 allot oops", -13).count(3, 4).count(4, 1);
-                    new Desk().answers(": a ; : b oops", -13).count(3, 1).count(4, 1).word(0, 4, 1);
-                    // and so does what was stored and made immediate before
-                    desk = new Desk().answers(": a 9 300 ! [ 8 301 ! immediate oops", -13);
-                    desk.cells(300, 0, 8).answers(": a ;", 0).word(0, 2, 0).word(0, 3, -1);
-                });
+            Desk desk = new Desk().answers("3 allot : a 1 2 oops", -13).count(3, 3);
+            desk.count(4, 0).cells(3, 1, 1, 1, 2).answers("a", -13).answers("]", -14);
+            new Desk().answers("3 allot : a [ 50 allot oops", -13).count(3, 3).count(4, 0);
+            new Desk().answers("3 allot : a [ -2 allot oops", -13).count(3, 3).count(4, 0);
+            new Desk().answers("3 allot : a", 0).answers("5", 0).answers("oops", -13)
+                    .count(3, 3).count(4, 0);
+            new Desk().answers("3 allot : a 5 [ cr", 3, -28).count(3, 3).count(4, 0);
+            // a finished one stays, and HERE with it
+            new Desk().answers(": a 5 ; 3 allot oops", -13).count(3, 6).count(4, 1);
+            new Desk().answers("variable v 3 allot oops", -13).count(3, 4).count(4, 1);
+            new Desk().answers(": a ; : b oops", -13).count(3, 1).count(4, 1).word(0, 4, 1);
+            // and so does what was stored and made immediate before
+            desk = new Desk().answers(": a 9 300 ! [ 8 301 ! immediate oops", -13);
+            desk.cells(300, 0, 8).answers(": a ;", 0).word(0, 2, 0).word(0, 3, -1);
+        });
     }
 }

@@ -4,11 +4,10 @@ import java.lang.reflect.Modifier;
 import java.util.Arrays;
 import java.util.TreeSet;
 
-/** The boundary cases of the public face, of promises 1 to 8 and of the output, sentence by sentence. */
+/** The boundary cases of the face, promises 1 to 8 and the output, sentence by sentence. */
 public final class FaceSentencesTest {
-    private static final int LEAST = Integer.MIN_VALUE;
-    private static final int MOST = Integer.MAX_VALUE;
-    private static final Class<? extends RuntimeException> NO_INDEX = IndexOutOfBoundsException.class;
+    private static final Class<? extends RuntimeException> NO_INDEX =
+            IndexOutOfBoundsException.class;
     private static final Class<? extends RuntimeException> NO_ARGUMENT =
             IllegalArgumentException.class;
 
@@ -80,17 +79,17 @@ public final class FaceSentencesTest {
     }
 
     private static void type() {
-        Sentence.holds("Appends a character to the text: true; refused (false) when it has 200.",
-                () -> {
-                    Desk desk = new Desk().type(Desk.times(198, " ") + "45");
-                    Desk.due("the 201st", desk.forge.type('6'), false);
-                    Desk.due("the 201st again", desk.forge.type('7'), false);
-                    desk.answers("", 0, 0).stack(45);
-                    // the text went with the run, so that there is room again
-                    desk.type(Desk.times(200, " "));
-                    Desk.due("the 201st behind a run", desk.forge.type('8'), false);
-                    desk.answers("", 0, 0).stack(45);
-                });
+        Sentence.holds("Appends a character to the text: true; refused (false) when it has"
+                + " 200.", () -> {
+            Desk desk = new Desk().type(Desk.times(198, " ") + "45");
+            Desk.due("the 201st", desk.forge.type('6'), false);
+            Desk.due("the 201st again", desk.forge.type('7'), false);
+            desk.answers("", 0, 0).stack(45);
+            // the text went with the run, so that there is room again
+            desk.type(Desk.times(200, " "));
+            Desk.due("the 201st behind a run", desk.forge.type('8'), false);
+            desk.answers("", 0, 0).stack(45);
+        });
         Sentence.holds("Appends a character to the text: true", () -> {
             for (char c : new char[] {0, 1, 9, 10, 32, 127, 128, 255, 256, 0xffff}) {
                 Desk.due("type(" + (int) c + ")", new WordForge().type(c), true);
@@ -105,7 +104,7 @@ public final class FaceSentencesTest {
         Sentence.holds("Interprets the text, which goes then", () -> {
             Desk.after("5").answers("", 0).stack(5).answers("6", 0).stack(5, 6);
             new Desk().answers("oops 5", -13).answers("", 0).stack();
-            new Desk().answers("cr 5", 0, -28).answers("", 0).stack();
+            new Desk().answers("cr 5", 0, -28).answers("", 0).stack().wrote("").count(6, 0);
         });
         Sentence.holds("with so many steps: 0, or the error.", () -> {
             new Desk().answers("", 0, 0).count(6, 0);
@@ -118,11 +117,12 @@ public final class FaceSentencesTest {
             new Desk().answers(endless, 2999, -28).count(6, 2999);
             // each run has its steps anew
             new Desk().answers("cr", 1, 0).answers("cr", 1, 0).count(6, 1);
-            new Desk().answers("-2147483648 throw", LEAST).answers("2147483647 throw", MOST);
+            new Desk().answers("-2147483648 throw", Desk.LEAST);
+            new Desk().answers("2147483647 throw", Desk.MOST);
         });
         Sentence.holds("IllegalArgumentException when fuel is not 0 .. 3000.", () -> {
             Desk desk = Desk.after("9 . ' drop catch").type("7");
-            for (int fuel : new int[] {-1, 3001, LEAST, MOST}) {
+            for (int fuel : new int[] {-1, 3001, Desk.LEAST, Desk.MOST}) {
                 throwsOf(NO_ARGUMENT, "run(" + fuel + ")", () -> desk.forge.run(fuel));
             }
             // the refused call has changed nothing: text, output, stack, steps, caught errors
@@ -149,46 +149,46 @@ public final class FaceSentencesTest {
         });
         Sentence.holds("Character k of the output of the latest run. IndexOutOfBoundsException when"
                 + " there is none.", () -> {
-                    Desk desk = Desk.after("72 emit 105 emit");
-                    Desk.due("output(0)", desk.forge.output(0), 'H');
-                    Desk.due("output(1)", desk.forge.output(1), 'i');
-                    for (int k : new int[] {-1, 2, 299, 300, LEAST, MOST}) {
-                        throwsOf(NO_INDEX, "output(" + k + ")", () -> desk.forge.output(k));
-                    }
-                    desk.answers("74 emit", 0);
-                    Desk.due("output(0) of the next run", desk.forge.output(0), 'J');
-                    throwsOf(NO_INDEX, "output(1)", () -> desk.forge.output(1));
-                    desk.answers("", 0);
-                    throwsOf(NO_INDEX, "output(0)", () -> desk.forge.output(0));
-                    Desk full = Desk.after(": a 301 0 do 65 emit loop ; a");
-                    Desk.due("output(299)", full.forge.output(299), 'A');
-                    throwsOf(NO_INDEX, "output(300)", () -> full.forge.output(300));
-                    // an error does not take away what has been written
-                    new Desk().answers("72 emit oops 73 emit", -13).wrote("H");
-                });
+            Desk desk = Desk.after("72 emit 105 emit");
+            Desk.due("output(0)", desk.forge.output(0), 'H');
+            Desk.due("output(1)", desk.forge.output(1), 'i');
+            for (int k : new int[] {-1, 2, 299, 300, Desk.LEAST, Desk.MOST}) {
+                throwsOf(NO_INDEX, "output(" + k + ")", () -> desk.forge.output(k));
+            }
+            desk.answers("74 emit", 0);
+            Desk.due("output(0) of the next run", desk.forge.output(0), 'J');
+            throwsOf(NO_INDEX, "output(1)", () -> desk.forge.output(1));
+            desk.answers("", 0);
+            throwsOf(NO_INDEX, "output(0)", () -> desk.forge.output(0));
+            Desk full = Desk.after(": a 301 0 do 65 emit loop ; a");
+            Desk.due("output(299)", full.forge.output(299), 'A');
+            throwsOf(NO_INDEX, "output(300)", () -> full.forge.output(300));
+            // an error does not take away what has been written
+            new Desk().answers("72 emit oops 73 emit", -13).wrote("H");
+        });
     }
 
     private static void stack() {
         Sentence.holds("Number k of the stack, from its bottom (0). IndexOutOfBoundsException when"
                 + " there is none.", () -> {
-                    Desk desk = Desk.after("11 22 33").stack(11, 22, 33);
-                    for (int k : new int[] {-1, 3, 29, 30, LEAST, MOST}) {
-                        throwsOf(NO_INDEX, "stack(" + k + ")", () -> desk.forge.stack(k));
-                    }
-                    desk.answers("drop", 0);
-                    throwsOf(NO_INDEX, "stack(2)", () -> desk.forge.stack(2));
-                    Desk full = Desk.after(Desk.times(29, "1 ") + "8");
-                    Desk.due("stack(29)", full.forge.stack(29), 8);
-                    throwsOf(NO_INDEX, "stack(30)", () -> full.forge.stack(30));
-                    full.answers("oops", -13);
-                    throwsOf(NO_INDEX, "stack(0)", () -> full.forge.stack(0));
-                });
+            Desk desk = Desk.after("11 22 33").stack(11, 22, 33);
+            for (int k : new int[] {-1, 3, 29, 30, Desk.LEAST, Desk.MOST}) {
+                throwsOf(NO_INDEX, "stack(" + k + ")", () -> desk.forge.stack(k));
+            }
+            desk.answers("drop", 0);
+            throwsOf(NO_INDEX, "stack(2)", () -> desk.forge.stack(2));
+            Desk full = Desk.after(Desk.ALMOST_FULL_STACK + "8");
+            Desk.due("stack(29)", full.forge.stack(29), 8);
+            throwsOf(NO_INDEX, "stack(30)", () -> full.forge.stack(30));
+            full.answers("oops", -13);
+            throwsOf(NO_INDEX, "stack(0)", () -> full.forge.stack(0));
+        });
     }
 
     private static void cell() {
         Sentence.holds("Cell a. IndexOutOfBoundsException when there is none.", () -> {
             Desk desk = Desk.after("5 0 ! 6 1 ! 7 399 !").cells(0, 5, 6, 0).cells(398, 0, 7);
-            for (int a : new int[] {-1, 400, LEAST, MOST}) {
+            for (int a : new int[] {-1, 400, Desk.LEAST, Desk.MOST}) {
                 throwsOf(NO_INDEX, "cell(" + a + ")", () -> desk.forge.cell(a));
             }
             // one behind HERE is a cell as well
@@ -197,20 +197,20 @@ public final class FaceSentencesTest {
     }
 
     private static void word() {
-        Sentence.holds("Of made word k (0 the first one): ... IndexOutOfBoundsException when there is"
-                + " no such word", () -> {
-                    Desk desk = Desk.after("2 allot create x create y");
-                    desk.word(0, 0, 2).word(1, 0, 2);
-                    for (int k : new int[] {-1, 2, 39, 40, 82, LEAST, MOST}) {
-                        throwsOf(NO_INDEX, "word(" + k + ", 0)", () -> desk.forge.word(k, 0));
-                    }
-                    // a word that is being made is there until it goes
-                    desk.answers(": z", 0).word(2, 4, 0).answers("oops", -13);
-                    throwsOf(NO_INDEX, "word(2, 4)", () -> desk.forge.word(2, 4));
-                });
+        Sentence.holds("Of made word k (0 the first one): ... IndexOutOfBoundsException when there"
+                + " is no such word", () -> {
+            Desk desk = Desk.after("2 allot create x create y");
+            desk.word(0, 0, 2).word(1, 0, 2);
+            for (int k : new int[] {-1, 2, 39, 40, 82, Desk.LEAST, Desk.MOST}) {
+                throwsOf(NO_INDEX, "word(" + k + ", 0)", () -> desk.forge.word(k, 0));
+            }
+            // a word that is being made is there until it goes
+            desk.answers(": z", 0).word(2, 4, 0).answers("oops", -13);
+            throwsOf(NO_INDEX, "word(2, 4)", () -> desk.forge.word(2, 4));
+        });
         Sentence.holds("else IllegalArgumentException when what is none of these.", () -> {
             Desk desk = Desk.after("create x");
-            for (int what : new int[] {-1, 5, LEAST, MOST}) {
+            for (int what : new int[] {-1, 5, Desk.LEAST, Desk.MOST}) {
                 throwsOf(NO_ARGUMENT, "word(0, " + what + ")", () -> desk.forge.word(0, what));
                 throwsOf(NO_INDEX, "word(1, " + what + ")", () -> desk.forge.word(1, what));
                 throwsOf(NO_INDEX, "word(-1, " + what + ")", () -> desk.forge.word(-1, what));
@@ -243,8 +243,8 @@ public final class FaceSentencesTest {
         });
         Sentence.holds("1 numbers on the stack, 2 in the store", () -> {
             Desk.after("1 2 3 >r").count(1, 2).count(2, 1);
-            Desk desk = Desk.after(Desk.times(30, "1 >r ")).count(1, 0).count(2, 30);
-            desk.answers(Desk.times(30, "1 "), 0).count(1, 30).answers("1", -3);
+            Desk desk = Desk.after(Desk.FULL_STORE).count(1, 0).count(2, 30);
+            desk.answers(Desk.FULL_STACK, 0).count(1, 30).answers("1", -3);
             desk.count(1, 0).count(2, 0);
         });
         Sentence.holds("3 HERE, 4 made words", () -> {
@@ -270,7 +270,7 @@ public final class FaceSentencesTest {
         });
         Sentence.holds("NONE for another what.", () -> {
             Desk desk = Desk.after(": a if");
-            desk.count(-1, -1).count(9, -1).count(LEAST, -1).count(MOST, -1);
+            desk.count(-1, -1).count(9, -1).count(Desk.LEAST, -1).count(Desk.MOST, -1);
         });
     }
 

@@ -72,21 +72,14 @@ public final class ReadingTest {
         new Desk().answers(": a a ;", -13);
         Desk.after(": a 5 ; immediate : b a ; b").stack(5);
         Desk.after(": a 1 ; : b 2 ; a b immediate : c a b ;").stack(1, 2, 2).cells(6, 82, 0);
-        String[] names = {"exit", "dup", "drop", "swap", "over", "rot", "nip", "?dup", "depth",
-            "pick", ">r", "r>", "r@", "i", "j", "unloop", "+", "-", "*", "/", "mod", "negate",
-            "abs", "min", "max", "and", "or", "xor", "invert", "=", "<", "u<", "0=", "0<", "1+",
-            "1-", "2*", "@", "!", "+!", ",", "here", "allot", ".", "emit", "cr", ":", ";",
-            "constant", "variable", "create", "does>", "immediate", "'", "[']", "execute",
-            "compile,", "literal", "postpone", "[", "]", "recurse", "if", "else", "then", "begin",
-            "until", "while", "repeat", "do", "loop", "+loop", "throw", "catch", "("};
-        String atOnce = " ; does> ['] literal postpone [ recurse if else then begin until while"
-                + " repeat do loop +loop ( ";
-        for (int k = 0; k < names.length; k++) {
-            int number = k == 0 ? 0 : k + 7;
-            Desk.after("' " + names[k]).stack(number);
-            boolean immediate = atOnce.contains(" " + names[k] + " ");
-            Desk postponed = Desk.after(": a postpone " + names[k]);
-            if (immediate) {
+        for (int number = 0; number < Desk.NAMES.length; number++) {
+            String name = Desk.NAMES[number];
+            if (name.isEmpty()) {
+                continue;
+            }
+            Desk.after("' " + name).stack(number);
+            Desk postponed = Desk.after(": a postpone " + name);
+            if (Desk.isImmediate(name)) {
                 postponed.cells(0, number, 0).count(3, 1);
             } else {
                 postponed.cells(0, 1, number, 63).count(3, 3);

@@ -3,7 +3,7 @@ import java.nio.file.Files;
 import java.nio.file.Path;
 import java.util.regex.Pattern;
 
-/** Holds the class to one sentence of the document at a time; the sentence stands beside its test. */
+/** Holds the class to one sentence of the document at a time, which stands beside its test. */
 final class Sentence {
     private static final Path DOCUMENT = Path.of("../shared/DOC.md");
     /** Stands in a sentence where some of the document's words have been left out. */

@@ -1,8 +1,5 @@
 /** Promise 3: the words 8 .. 43, on stack and store and with numbers. */
 public final class StackWordsTest {
-    private static final int LEAST = Integer.MIN_VALUE;
-    private static final int MOST = Integer.MAX_VALUE;
-
     public static void main(String[] args) {
         moves();
         store();
@@ -44,67 +41,62 @@ public final class StackWordsTest {
     }
 
     private static void two() {
-        gives("5 3 +", 8);
-        gives("2147483647 1 +", LEAST);
-        gives("5 3 -", 2);
-        gives("-2147483648 1 -", MOST);
-        gives("-5 3 *", -15);
-        gives("65536 65536 *", 0);
-        gives("7 2 /", 3);
-        gives("-7 2 /", -3);
-        gives("7 -2 /", -3);
-        gives("-2147483648 -1 /", LEAST);
-        gives("7 2 mod", 1);
-        gives("-7 2 mod", -1);
-        gives("7 -2 mod", 1);
-        gives("-2147483648 -1 mod", 0);
+        Desk.gives("5 3 +", 8);
+        Desk.gives("2147483647 1 +", Desk.LEAST);
+        Desk.gives("5 3 -", 2);
+        Desk.gives("-2147483648 1 -", Desk.MOST);
+        Desk.gives("-5 3 *", -15);
+        Desk.gives("65536 65536 *", 0);
+        Desk.gives("7 2 /", 3);
+        Desk.gives("-7 2 /", -3);
+        Desk.gives("7 -2 /", -3);
+        Desk.gives("-2147483648 -1 /", Desk.LEAST);
+        Desk.gives("7 2 mod", 1);
+        Desk.gives("-7 2 mod", -1);
+        Desk.gives("7 -2 mod", 1);
+        Desk.gives("-2147483648 -1 mod", 0);
         new Desk().answers("7 0 /", -10);
         new Desk().answers("7 0 mod", -10);
         Desk.after("7 0 ' / catch").stack(7, 0, -10);
-        gives("3 -4 min", -4);
-        gives("-4 3 min", -4);
-        gives("3 -4 max", 3);
-        gives("-4 3 max", 3);
-        gives("12 10 and", 8);
-        gives("12 10 or", 14);
-        gives("12 10 xor", 6);
-        gives("5 5 =", -1);
-        gives("5 6 =", 0);
-        gives("5 6 <", -1);
-        gives("5 5 <", 0);
-        gives("6 5 <", 0);
-        gives("-1 1 <", -1);
-        gives("2147483647 -2147483648 <", 0);
-        gives("5 6 u<", -1);
-        gives("-1 1 u<", 0);
-        gives("1 -1 u<", -1);
-        gives("-2 -1 u<", -1);
-        gives("2147483647 -2147483648 u<", -1);
-        gives("0 0 u<", 0);
+        Desk.gives("3 -4 min", -4);
+        Desk.gives("-4 3 min", -4);
+        Desk.gives("3 -4 max", 3);
+        Desk.gives("-4 3 max", 3);
+        Desk.gives("12 10 and", 8);
+        Desk.gives("12 10 or", 14);
+        Desk.gives("12 10 xor", 6);
+        Desk.gives("5 5 =", -1);
+        Desk.gives("5 6 =", 0);
+        Desk.gives("5 6 <", -1);
+        Desk.gives("5 5 <", 0);
+        Desk.gives("6 5 <", 0);
+        Desk.gives("-1 1 <", -1);
+        Desk.gives("2147483647 -2147483648 <", 0);
+        Desk.gives("5 6 u<", -1);
+        Desk.gives("-1 1 u<", 0);
+        Desk.gives("1 -1 u<", -1);
+        Desk.gives("-2 -1 u<", -1);
+        Desk.gives("2147483647 -2147483648 u<", -1);
+        Desk.gives("0 0 u<", 0);
     }
 
     private static void one() {
-        gives("5 negate", -5);
-        gives("-2147483648 negate", LEAST);
-        gives("-5 abs", 5);
-        gives("5 abs", 5);
-        gives("-2147483648 abs", LEAST);
-        gives("0 invert", -1);
-        gives("5 invert", -6);
-        gives("0 0=", -1);
-        gives("3 0=", 0);
-        gives("-1 0<", -1);
-        gives("0 0<", 0);
-        gives("1 0<", 0);
-        gives("2147483647 1+", LEAST);
-        gives("-2147483648 1-", MOST);
-        gives("1073741824 2*", LEAST);
-        gives("-3 2*", -6);
-    }
-
-    private static void gives(String text, int want) {
-        Desk.after("99 " + text).stack(99, want);
-        Desk.after(text).stack(want);
+        Desk.gives("5 negate", -5);
+        Desk.gives("-2147483648 negate", Desk.LEAST);
+        Desk.gives("-5 abs", 5);
+        Desk.gives("5 abs", 5);
+        Desk.gives("-2147483648 abs", Desk.LEAST);
+        Desk.gives("0 invert", -1);
+        Desk.gives("5 invert", -6);
+        Desk.gives("0 0=", -1);
+        Desk.gives("3 0=", 0);
+        Desk.gives("-1 0<", -1);
+        Desk.gives("0 0<", 0);
+        Desk.gives("1 0<", 0);
+        Desk.gives("2147483647 1+", Desk.LEAST);
+        Desk.gives("-2147483648 1-", Desk.MOST);
+        Desk.gives("1073741824 2*", Desk.LEAST);
+        Desk.gives("-3 2*", -6);
     }
 
     private static void tooFew() {
@@ -133,9 +125,8 @@ public final class StackWordsTest {
     }
 
     private static void tooMany() {
-        String full = Desk.times(30, "1 ");
         for (String name : new String[] {"dup", "over", "?dup", "depth", "here", "' dup"}) {
-            new Desk().answers(full + name, -3).stack();
+            new Desk().answers(Desk.FULL_STACK + name, -3).stack();
         }
         new Desk().answers(Desk.times(29, "1 ") + "0 ?dup", 0).count(1, 30);
         String six = Desk.times(6, "1 >r ");
@@ -149,9 +140,9 @@ public final class StackWordsTest {
         desk.answers("drop r>", 0);
         Desk.due("the number in the store", desk.forge.stack(28), 8);
         desk = Desk.after(six + six + six + six + six);
-        desk.answers(full + "r>", -3);
+        desk.answers(Desk.FULL_STACK + "r>", -3);
         desk = Desk.after(six + six + six + six + six);
-        desk.answers(full + "j", -3);
+        desk.answers(Desk.FULL_STACK + "j", -3);
         desk = Desk.after(six + six + six + six + "1 >r 1 >r 1 >r 1 >r 1 >r ").count(2, 29);
         desk.answers(": a do loop ; 8 7 6 ' a catch", 0).stack(8, 7, 6, -5).count(2, 29);
     }

@@ -1,7 +1,5 @@
 /** The boundary cases of numbers, text, words, calls and interpreting, sentence by sentence. */
 public final class TermsSentencesTest {
-    private static final int LEAST = Integer.MIN_VALUE;
-    private static final int MOST = Integer.MAX_VALUE;
     private static final String[] FAR = {"-1", "400", "-2147483648", "2147483647"};
     private static final String[] PARSING = {":", "1 constant", "variable", "create", "'",
         ": a [']", ": a postpone"};
@@ -25,52 +23,48 @@ public final class TermsSentencesTest {
 
     private static void numbers() {
         Sentence.holds("NUMBERS are -2147483648 .. 2147483647, all arithmetic goes round", () -> {
-            gives("2147483647 1 +", LEAST);
-            gives("-2147483648 -1 +", MOST);
-            gives("-2147483648 1 -", MOST);
-            gives("2147483647 -1 -", LEAST);
-            gives("0 -2147483648 -", LEAST);
-            gives("65536 65536 *", 0);
-            gives("2147483647 2 *", -2);
-            gives("-2147483648 -1 *", LEAST);
-            gives("-2147483648 -1 /", LEAST);
-            gives("-2147483648 -1 mod", 0);
-            gives("-2147483648 negate", LEAST);
-            gives("-2147483648 abs", LEAST);
-            gives("2147483647 1+", LEAST);
-            gives("-2147483648 1-", MOST);
-            gives("1073741824 2*", LEAST);
-            gives("-2147483648 2*", 0);
-            Desk.after("2147483647 9 ! 1 9 +!").cells(9, LEAST);
-            Desk.after("-2147483648 9 ! -1 9 +!").cells(9, MOST);
+            Desk.gives("2147483647 1 +", Desk.LEAST);
+            Desk.gives("-2147483648 -1 +", Desk.MOST);
+            Desk.gives("-2147483648 1 -", Desk.MOST);
+            Desk.gives("2147483647 -1 -", Desk.LEAST);
+            Desk.gives("0 -2147483648 -", Desk.LEAST);
+            Desk.gives("65536 65536 *", 0);
+            Desk.gives("2147483647 2 *", -2);
+            Desk.gives("-2147483648 -1 *", Desk.LEAST);
+            Desk.gives("-2147483648 -1 /", Desk.LEAST);
+            Desk.gives("-2147483648 -1 mod", 0);
+            Desk.gives("-2147483648 negate", Desk.LEAST);
+            Desk.gives("-2147483648 abs", Desk.LEAST);
+            Desk.gives("2147483647 1+", Desk.LEAST);
+            Desk.gives("-2147483648 1-", Desk.MOST);
+            Desk.gives("1073741824 2*", Desk.LEAST);
+            Desk.gives("-2147483648 2*", 0);
+            Desk.after("2147483647 9 ! 1 9 +!").cells(9, Desk.LEAST);
+            Desk.after("-2147483648 9 ! -1 9 +!").cells(9, Desk.MOST);
         });
         Sentence.holds("a truth is -1 or 0.", () -> {
-            gives("5 5 =", -1);
-            gives("5 6 =", 0);
-            gives("5 6 <", -1);
-            gives("5 5 <", 0);
-            gives("5 6 u<", -1);
-            gives("5 5 u<", 0);
-            gives("0 0=", -1);
-            gives("-2147483648 0=", 0);
-            gives("-2147483648 0<", -1);
-            gives("0 0<", 0);
+            Desk.gives("5 5 =", -1);
+            Desk.gives("5 6 =", 0);
+            Desk.gives("5 6 <", -1);
+            Desk.gives("5 5 <", 0);
+            Desk.gives("5 6 u<", -1);
+            Desk.gives("5 5 u<", 0);
+            Desk.gives("0 0=", -1);
+            Desk.gives("-2147483648 0=", 0);
+            Desk.gives("-2147483648 0<", -1);
+            Desk.gives("0 0<", 0);
         });
-    }
-
-    private static void gives(String text, int want) {
-        Desk.after("99 " + text).stack(99, want);
     }
 
     private static void rows() {
         Sentence.holds("There are a STACK and a STORE of numbers (30 each at most)", () -> {
-            Desk.after(Desk.times(30, "1 ")).count(1, 30);
-            Desk.after(Desk.times(29, "1 ") + "dup").count(1, 30);
-            Desk.after(Desk.times(30, "1 >r ")).count(2, 30);
+            Desk.after(Desk.FULL_STACK).count(1, 30);
+            Desk.after(Desk.ALMOST_FULL_STACK + "dup").count(1, 30);
+            Desk.after(Desk.FULL_STORE).count(2, 30);
             Desk.after(": a [ 4 , ] ; " + Desk.times(28, "1 >r ")).answers("1 2 a", 0).count(2, 30);
             // the full rows can be used and emptied
             Desk.after(Desk.times(28, "1 ") + "5 6").answers("swap - 28 pick", 0).count(1, 30);
-            Desk.after(Desk.times(29, "1 >r ") + "7 >r").answers("r> r@", 0).stack(7, 1);
+            Desk.after(Desk.ALMOST_FULL_STORE + "7 >r").answers("r> r@", 0).stack(7, 1);
         });
         Sentence.holds("a row of CALLS (30)", () -> {
             Desk.after(": a 1+ dup 30 < if recurse then ; 0 a").stack(30);
@@ -92,16 +86,16 @@ public final class TermsSentencesTest {
             Desk.after("here 7 , here").stack(0, 1).cells(0, 7, 0);
             Desk.after("399 allot here 7 , here").stack(399, 400).cells(399, 7);
         });
-        Sentence.holds("To APPEND a number: the cell at HERE becomes it, HERE is 1 more (-8 when HERE"
-                + " is 400).", () -> {
-                    Desk.after("398 allot 5 , 6 ,").cells(398, 5, 6).count(3, 400);
-                    new Desk().answers("400 allot 5 ,", -8).count(3, 400);
-                    Desk.meets("400 allot 5", ",", "", -8);
-                    Desk.meets("400 allot 8", "compile,", "", -8);
-                    Desk.after("399 allot 8 compile,").cells(399, 8).count(3, 400);
-                    // one that goes back gives the cells free, with what is in them
-                    Desk.after("5 , 6 , -1 allot 7 ,").cells(0, 5, 7).count(3, 2);
-                });
+        Sentence.holds("To APPEND a number: the cell at HERE becomes it, HERE is 1 more (-8 when"
+                + " HERE is 400).", () -> {
+            Desk.after("398 allot 5 , 6 ,").cells(398, 5, 6).count(3, 400);
+            new Desk().answers("400 allot 5 ,", -8).count(3, 400);
+            Desk.meets("400 allot 5", ",", "", -8);
+            Desk.meets("400 allot 8", "compile,", "", -8);
+            Desk.after("399 allot 8 compile,").cells(399, 8).count(3, 400);
+            // where HERE went back, the cell is another number
+            Desk.after("5 , 6 , -1 allot 7 ,").cells(0, 5, 7).count(3, 2);
+        });
     }
 
     private static void text() {
@@ -130,11 +124,11 @@ public final class TermsSentencesTest {
     private static void parsing() {
         Sentence.holds("To PARSE a name: blanks are passed over, then it is taken, with one blank"
                 + " behind it if there is one", () -> {
-                    Desk.after("'  \n \n dup").stack(8);
-                    Desk.after("' dup\n\n5").stack(8, 5);
-                    Desk.after("variable x").count(4, 1).answers("x", 0).stack(0);
-                    Desk.after("variable" + Desk.times(191, "\n") + "x").count(4, 1);
-                });
+            Desk.after("'  \n \n dup").stack(8);
+            Desk.after("' dup\n\n5").stack(8, 5);
+            Desk.after("variable x").count(4, 1).answers("x", 0).stack(0);
+            Desk.after("variable" + Desk.times(191, "\n") + "x").count(4, 1);
+        });
         Sentence.holds("(-16 if the text ends;", () -> {
             for (String word : DEFINING) {
                 new Desk().answers(word + " x", 0).count(4, 1);
@@ -166,7 +160,8 @@ public final class TermsSentencesTest {
             Desk.meets("82", "compile,", "", -9);
             Desk.meets("-1", "compile,", "", -9);
         });
-        Sentence.holds("made ones, at most 40, follow from 82 on, in order (-8 for one more).", () -> {
+        Sentence.holds("made ones, at most 40, follow from 82 on, in order (-8 for one"
+                + " more).", () -> {
             for (String word : DEFINING) {
                 Desk desk = fortyWords().count(4, 40).answers(word + " x", -8);
                 desk.count(4, 40).count(3, 0).count(5, 0).answers("' x", -13);
@@ -242,6 +237,8 @@ public final class TermsSentencesTest {
             new Desk().answers(": a 5 ; a", 4, -28).count(6, 4).stack();
             new Desk().answers(": a 5 ; a", 5, 0).stack(5);
             new Desk().answers("' cr execute", 2, -28).wrote("");
+            // nor is it in the next run
+            new Desk().answers("cr", 0, -28).answers("5", 0).stack(5).wrote("").count(6, 0);
             // the end of the run is that of every error
             new Desk().answers("1 2 >r : a if [ cr cr", 4, -28).stack().count(2, 0).count(4, 0);
             // without a step left, what takes none still goes on
@@ -257,99 +254,102 @@ public final class TermsSentencesTest {
     }
 
     private static void madeWords() {
-        Sentence.holds("a COLON word: carrying it out is a call: it goes on at its place in memory",
-                () -> {
-                    Desk.after("5 allot : a 7 ; a").stack(7).word(0, 0, 5);
-                    Desk.after("399 allot : a ; a").stack();
-                    Desk.after("400 allot : a [ 1 2 82 catch").stack(1, 2, -9).count(4, 1);
-                    new Desk().answers("400 allot : a [ 82 execute", -9);
-                });
-        Sentence.holds("or a PLACE word: its place is put on the stack, and if it has a BEHAVIOUR (a"
-                + " place in memory), a call of that follows", () -> {
-                    Desk.after("create x x").stack(0);
-                    Desk.after("400 allot create x x").stack(400);
-                    Desk.after(": k create does> 5 ; k x x").stack(5, 5).word(1, 3, 2);
-                    // -3 before -5; both leave it undone
-                    String cloaked = ": k create does> ; k x : r x recurse ; ";
-                    Desk.after(cloaked + "1 2 ' r catch").stack(1, 2, -3);
-                    Desk.after(cloaked + "1 ' r catch").stack(1, -5);
-                    new Desk().answers("variable v " + Desk.times(30, "1 ") + "v", -3);
-                    // without a behaviour there is no call for which the row could be full
-                    Desk.after("create v : a 1+ dup 30 < if recurse else v then ; 0 a")
-                            .stack(30, 0);
-                    new Desk().answers(cloaked + ": a 1+ dup 30 < if recurse else x then ; 0 a", -5);
-                });
-        Sentence.holds("or a CONSTANT: the number in the cell at its place is put on the stack.", () -> {
-            Desk.after("-2147483648 constant c c").stack(LEAST);
+        Sentence.holds("a COLON word: carrying it out is a call: it goes on at its place in"
+                + " memory", () -> {
+            Desk.after("5 allot : a 7 ; a").stack(7).word(0, 0, 5);
+            Desk.after("399 allot : a ; a").stack();
+            Desk.after("400 allot : a [ 1 2 82 catch").stack(1, 2, -9).count(4, 1);
+            new Desk().answers("400 allot : a [ 82 execute", -9);
+        });
+        Sentence.holds("or a PLACE word: its place is put on the stack, and if it has a BEHAVIOUR"
+                + " (a place in memory), a call of that follows", () -> {
+            Desk.after("create x x").stack(0);
+            Desk.after("400 allot create x x").stack(400);
+            Desk.after(": k create does> 5 ; k x x").stack(5, 5).word(1, 3, 2);
+            // -3 before -5; both leave it undone
+            String cloaked = ": k create does> ; k x : r x recurse ; ";
+            Desk.after(cloaked + "1 2 ' r catch").stack(1, 2, -3);
+            Desk.after(cloaked + "1 ' r catch").stack(1, -5);
+            new Desk().answers("variable v " + Desk.FULL_STACK + "v", -3);
+            // without a behaviour there is no call for which the row could be full
+            Desk.after("create v : a 1+ dup 30 < if recurse else v then ; 0 a")
+                    .stack(30, 0);
+            new Desk().answers(cloaked + ": a 1+ dup 30 < if recurse else x then ; 0 a", -5);
+        });
+        Sentence.holds("or a CONSTANT: the number in the cell at its place is put on the"
+                + " stack.", () -> {
+            Desk.after("-2147483648 constant c c").stack(Desk.LEAST);
             Desk.after("9 constant c 5 0 ! c").stack(5);
             Desk.after("399 allot 6 constant c c").stack(6);
-            new Desk().answers("9 constant c " + Desk.times(30, "1 ") + "c", -3);
-            Desk.after("9 constant c " + Desk.times(29, "1 ") + "c").count(1, 30);
+            new Desk().answers("9 constant c " + Desk.FULL_STACK + "c", -3);
+            Desk.after("9 constant c " + Desk.ALMOST_FULL_STACK + "c").count(1, 30);
         });
     }
 
     private static void calls() {
         Sentence.holds("A CALL goes on: the number in the cell at its place (-9 if there is no such"
                 + " cell) is taken", () -> {
-                    for (String place : FAR) {
-                        Desk.meets(": a [ 2 , " + place + " , ] ; 1 2", "a", "", -9);
-                    }
-                    Desk.after(": a [ 2 , 399 , ] ; a").stack();
-                    // behind the last cell
-                    new Desk().answers("398 allot : a [ -2 allot ] ; 52 398 ! 52 399 ! a", -9)
-                            .wrote("\n\n");
-                    // at the place of a behaviour
-                    Desk.after("399 allot : a [ -399 allot ] ; 7 399 ! create b a ' b catch")
-                            .stack(-9);
-                });
-        Sentence.holds("the place is 1 more, and the word of that number (-9 if there is none; one that"
-                + " is being made is one) is carried out", () -> {
-                    for (String number : new String[] {"-1", "83", "-2147483648", "2147483647"}) {
-                        Desk.meets(": a [ " + number + " , ] ; 1 2", "a", "", -9);
-                    }
-                    Desk.after(": a exit [ 82 , ] ; a").stack();
-                    Desk.after(": a 5 exit [ 82 execute").stack(5).count(5, 0).word(0, 4, 0);
-                    Desk.after(": a 0= if 5 exit then 0 recurse exit [ 1 82 execute").stack(5);
-                    // a number that was a word's is none any more when this one went
-                    new Desk().answers(": a [ 83 , ] ; : b oops", -13).answers("a", -9);
-                });
-        Sentence.holds("as the latest of the row of calls, until it comes back. When the row is empty,"
-                + " the text goes on.", () -> {
-                    Desk.after(": a 1 ; : b a 2 ; b 3").stack(1, 2, 3);
-                    Desk.after(": a exit 1 ; a a 3").stack(3);
-                    // a call takes from the text what stands behind its name
-                    Desk.after(": a ' ; a dup 5").stack(8, 5);
-                });
+            for (String place : FAR) {
+                Desk.meets(": a [ 2 , " + place + " , ] ; 1 2", "a", "", -9);
+            }
+            Desk.after(": a [ 2 , 399 , ] ; a").stack();
+            // behind the last cell
+            new Desk().answers("398 allot : a [ -2 allot ] ; 52 398 ! 52 399 ! a", -9)
+                    .wrote("\n\n");
+            // at the place of a behaviour
+            Desk.after("399 allot : a [ -399 allot ] ; 7 399 ! create b a ' b catch")
+                    .stack(-9);
+        });
+        Sentence.holds("the place is 1 more, and the word of that number (-9 if there is none; one"
+                + " that is being made is one) is carried out", () -> {
+            for (String number : new String[] {"-1", "83", "-2147483648", "2147483647"}) {
+                Desk.meets(": a [ " + number + " , ] ; 1 2", "a", "", -9);
+            }
+            Desk.after(": a exit [ 82 , ] ; a").stack();
+            Desk.after(": a 5 exit [ 82 execute").stack(5).count(5, 0).word(0, 4, 0);
+            Desk.after(": a 0= if 5 exit then 0 recurse exit [ 1 82 execute").stack(5);
+            // a number that was a word's is none any more when this one went
+            new Desk().answers(": a [ 83 , ] ; : b oops", -13).answers("a", -9);
+        });
+        Sentence.holds("as the latest of the row of calls, until it comes back. When the row is"
+                + " empty, the text goes on.", () -> {
+            Desk.after(": a 1 ; : b a 2 ; b 3").stack(1, 2, 3);
+            Desk.after(": a exit 1 ; a a 3").stack(3);
+            // a call takes from the text what stands behind its name
+            Desk.after(": a ' ; a dup 5").stack(8, 5);
+        });
     }
 
     private static void interpreting() {
-        Sentence.holds("INTERPRETING: the names of the text, one behind the other (blanks passed over),"
-                + " as long as there are some.", () -> {
-                    new Desk().answers("", 0).stack().count(6, 0);
-                    new Desk().answers(" ", 0).stack();
-                    new Desk().answers("\n", 0).stack();
-                    new Desk().answers(Desk.times(100, " \n"), 0).stack();
-                    new Desk().answers(Desk.times(30, "1 ") + Desk.times(140, " "), 0).count(1, 30);
-                    Desk.after("\n1  \n 2 \n").stack(1, 2);
-                });
-        Sentence.holds("when one is COMPILING and it is not IMMEDIATE, its number is appended, otherwise"
-                + " it is carried out.", () -> {
-                    Desk.after(": a dup").cells(0, 8).count(3, 1).stack();
-                    Desk.after(": b 5 ; immediate : a b").stack(5).count(3, 3);
-                    Desk.after(": b 5 ; : a b").stack().cells(3, 82);
-                    Desk.after(": b 5 ; immediate b").stack(5);
-                    Desk.after(": a [ 5 dup").stack(5, 5).count(3, 0);
-                    // the last cell, and one more
-                    Desk.after("399 allot : a dup").cells(399, 8).count(3, 400);
-                    new Desk().answers("400 allot : a dup", -8).count(3, 400).count(4, 0);
-                    new Desk().answers("399 allot : a dup drop", -8).count(3, 399).cells(399, 8);
-                });
+        Sentence.holds("INTERPRETING: the names of the text, one behind the other (blanks passed"
+                + " over), as long as there are some.", () -> {
+            new Desk().answers("", 0).stack().count(6, 0);
+            new Desk().answers(" ", 0).stack();
+            new Desk().answers("\n", 0).stack();
+            new Desk().answers(Desk.times(100, " \n"), 0).stack();
+            new Desk().answers(Desk.FULL_STACK + Desk.times(140, " "), 0).count(1, 30);
+            Desk.after("\n1  \n 2 \n").stack(1, 2);
+        });
+        Sentence.holds("when one is COMPILING and it is not IMMEDIATE, its number is appended,"
+                + " otherwise it is carried out.", () -> {
+            Desk.after(": a dup").cells(0, 8).count(3, 1).stack();
+            Desk.after(": b 5 ; immediate : a b").stack(5).count(3, 3);
+            Desk.after(": b 5 ; : a b").stack().cells(3, 82);
+            Desk.after(": b 5 ; immediate b").stack(5);
+            Desk.after(": a [ 5 dup").stack(5, 5).count(3, 0);
+            // the last cell, and one more
+            Desk.after("399 allot : a dup").cells(399, 8).count(3, 400);
+            new Desk().answers("400 allot : a dup", -8).count(3, 400).count(4, 0);
+            new Desk().answers("399 allot : a dup drop", -8).count(3, 399).cells(399, 8);
+        });
     }
 
     private static void numbersInText() {
-        Sentence.holds("Else if it is a number (perhaps -, then 1 to 10 digits, in its bounds)", () -> {
+        Sentence.holds("Else if it is a number (perhaps -, then 1 to 10 digits, in its"
+                + " bounds)", () -> {
             Desk.after("0 -0 7 -7").stack(0, 0, 7, -7);
-            Desk.after("2147483647 -2147483648").stack(MOST, LEAST);
+            Desk.after("2147483647 -2147483648").stack(Desk.MOST, Desk.LEAST);
+            Desk.after("2147483646 -2147483647").stack(Desk.MOST - 1, Desk.LEAST + 1);
             Desk.after("0000000012 -0000000012").stack(12, -12);
             for (String none : new String[] {"2147483648", "-2147483649", "9999999999",
                 "-9999999999", "4294967296", "4294967297", "00000000001", "-00000000001",
@@ -364,14 +364,14 @@ public final class TermsSentencesTest {
             Desk.after("7 5 -").stack(2);
         });
         Sentence.holds("it is put on the stack, or, compiling, 1 and it are appended.", () -> {
-            Desk.after(Desk.times(29, "1 ") + "7").count(1, 30);
-            new Desk().answers(Desk.times(30, "1 ") + "7", -3).stack();
+            Desk.after(Desk.ALMOST_FULL_STACK + "7").count(1, 30);
+            new Desk().answers(Desk.FULL_STACK + "7", -3).stack();
             Desk.after("398 allot : a -7").cells(398, 1, -7).count(3, 400);
             new Desk().answers("400 allot : a -7", -8).count(3, 400).count(4, 0);
             // as with a word, both numbers or none
             new Desk().answers("399 allot : a -7", -8).count(3, 399).cells(399, 0);
             // compiling asks nothing of the stack
-            new Desk().answers(Desk.times(30, "1 ") + ": a 5 ; drop a", 0).count(1, 30);
+            new Desk().answers(Desk.FULL_STACK + ": a 5 ; drop a", 0).count(1, 30);
         });
         Sentence.holds("Else -13 (-19, if it has more than 9 characters).", () -> {
             new Desk().answers("abcdefghi", -13);
@@ -388,16 +388,16 @@ public final class TermsSentencesTest {
     }
 
     private static void goingOn() {
-        Sentence.holds("What the text does not end stays for the next run: one goes on compiling, the"
-                + " stack and the store are as they were.", () -> {
-                    Desk desk = Desk.after("5 6 >r : a 1 if 2").stack(5).count(2, 1);
-                    desk.count(5, 1).count(8, 1).count(4, 1);
-                    desk.answers("", 0).stack(5).count(2, 1).count(5, 1).count(8, 1);
-                    desk.answers("else 3 then ; a r>", 0).stack(5, 2, 6).count(2, 0).count(5, 0);
-                    Desk.after(": a [ 1").stack(1).count(5, 0).answers("] ; a", 0).stack(1);
-                    Desk.after(": a 5").answers("( 6", 0).answers("7 ; a", 0).stack(5, 7);
-                    // a name does not go on in the next run
-                    Desk.after("1").answers("2", 0).stack(1, 2);
-                });
+        Sentence.holds("What the text does not end stays for the next run: one goes on compiling,"
+                + " the stack and the store are as they were.", () -> {
+            Desk desk = Desk.after("5 6 >r : a 1 if 2").stack(5).count(2, 1);
+            desk.count(5, 1).count(8, 1).count(4, 1);
+            desk.answers("", 0).stack(5).count(2, 1).count(5, 1).count(8, 1);
+            desk.answers("else 3 then ; a r>", 0).stack(5, 2, 6).count(2, 0).count(5, 0);
+            Desk.after(": a [ 1").stack(1).count(5, 0).answers("] ; a", 0).stack(1);
+            Desk.after(": a 5").answers("( 6", 0).answers("7 ; a", 0).stack(5, 7);
+            // a name does not go on in the next run
+            Desk.after("1").answers("2", 0).stack(1, 2);
+        });
     }
 }
