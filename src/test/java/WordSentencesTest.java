@@ -294,6 +294,9 @@ public final class WordSentencesTest {
             Desk.gives("2147483647 -2147483648 mod", Desk.MOST);
             Desk.gives("-2147483648 -1 /", Desk.LEAST);
             Desk.gives("-2147483648 -1 mod", 0);
+            Desk.gives("-2147483648 1 /", Desk.LEAST);
+            Desk.gives("-2147483648 1 mod", 0);
+            Desk.gives("7 -1 /", -7);
             Desk.gives("0 5 /", 0);
             Desk.gives("-6 3 mod", 0);
             Desk.meets("7 0", "/", "", -10);
