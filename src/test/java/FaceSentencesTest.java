@@ -1,3 +1,4 @@
+import java.lang.reflect.Executable;
 import java.lang.reflect.Field;
 import java.lang.reflect.Method;
 import java.lang.reflect.Modifier;
@@ -59,6 +60,35 @@ public final class FaceSentencesTest {
         });
         Sentence.holds("public static final int NONE = -1;",
                 () -> Desk.due("NONE", WordForge.NONE, -1));
+        faceLine("public WordForge();", "WordForge");
+        faceLine("public boolean type(char c);", "type", char.class);
+        faceLine("public int run(int fuel) throws IllegalArgumentException;", "run", int.class);
+        faceLine("public char output(int k) throws IndexOutOfBoundsException;", "output", int.class);
+        faceLine("public int stack(int k) throws IndexOutOfBoundsException;", "stack", int.class);
+        faceLine("public int cell(int a) throws IndexOutOfBoundsException;", "cell", int.class);
+        faceLine("public int word(int k, int what) throws IndexOutOfBoundsException,"
+                + " IllegalArgumentException;", "word", int.class, int.class);
+        faceLine("public int count(int what);", "count", int.class);
+    }
+
+    private static void faceLine(String line, String name, Class<?>... parameters) {
+        Sentence.holds(line, () -> {
+            // the class itself does not keep the names of its parameters
+            String want = line.replaceAll(" (c|k|a|fuel|what)\\b", "").replace(";", "");
+            Desk.due("the line of " + name, declared(name, parameters), want);
+        });
+    }
+
+    private static String declared(String name, Class<?>... parameters) {
+        try {
+            Executable member = name.equals("WordForge")
+                    ? WordForge.class.getDeclaredConstructor(parameters)
+                    : WordForge.class.getDeclaredMethod(name, parameters);
+            return member.toString().replace("WordForge.", "").replace("java.lang.", "")
+                    .replace(",", ", ");
+        } catch (NoSuchMethodException e) {
+            return "nothing";
+        }
     }
 
     private static void newObject() {
